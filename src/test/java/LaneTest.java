@@ -6,7 +6,9 @@ public final class LaneTest {
         freeColumns();
         forecastOfAimAndLimit();
         lanes();
+        narrowLanes();
         noLane();
+        shutAtTheLastTick();
         shutCurtain();
         calmestWay();
         shuts();
@@ -121,6 +123,42 @@ public final class LaneTest {
         Check.due("one lane", x.lane(12, 0), 1);
         Check.due("eight wide", x.lane(12, 1), 8);
         Check.due("its first column", x.lane(12, 2), 2);
+    }
+
+    private static void narrowLanes() {
+        BulletLanes x = new BulletLanes();
+        x.set(0, 1);
+        // As the wall in noLane(), but for the bullets that come down in the column 1, or in 1 and 6.
+        Check.hang(x, "2f9+1;3f9+1;6d9+1;7f9+1");
+        Check.due("one column", x.free(12), 2);
+        Check.due("one lane", x.lane(12, 0), 1);
+        Check.due("one wide", x.lane(12, 1), 1);
+        Check.due("its column", x.lane(12, 2), 1);
+        Check.hang(x, "2f9+1;3f9+1;6l9+1;7f9+1");
+        Check.due("two lanes", x.lane(12, 0), 2);
+        Check.due("one wide", x.lane(12, 1), 1);
+        Check.due("the lower one", x.lane(12, 2), 1);
+        Check.due("two ends", x.ends(12, 0), 2);
+        Check.due("two ends", x.ends(12, 1), 2);
+        Check.due("to the nearer one", x.way(12, 12), 6);
+        Check.play(x, "rssssssssssss");
+        Check.due("now all columns are free", x.lane(0, 1), 10);
+        x.undo();
+        Check.play(x, "rsssssssssss");
+        Check.due("now, at the tick 0", x.free(0), 2 + 64);
+        Check.due("two lanes now", x.lane(0, 0), 2);
+        Check.due("the lower one now", x.lane(0, 2), 1);
+    }
+
+    private static void shutAtTheLastTick() {
+        BulletLanes x = new BulletLanes();
+        x.set(0, 1);
+        // All four fire together in the tick 19, and not before.
+        Check.hang(x, "2f9+1;3f8+3;6f7+5;7f5+4");
+        Check.due("shut at the tick 30", x.free(30), 0);
+        Check.due("fair for all but the last tick", x.fair(), 29);
+        Check.due("a way for 29", x.ends(29, 0) > 0 ? 1 : 0, 1);
+        Check.due("none for 30", x.ends(30, 1), 0);
     }
 
     private static void noLane() {
