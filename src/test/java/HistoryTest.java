@@ -22,12 +22,14 @@ public final class HistoryTest {
         for (int what = 0; what <= 16; what++) {
             all.append(x.count(what)).append(' ');
         }
-        for (int e = 0; e < 4; e++) {
+        int emitters = x.count(0);
+        for (int e = 0; e < emitters; e++) {
             for (int what = 0; what < 5; what++) {
                 all.append(x.emitterOf(e, what)).append(' ');
             }
         }
-        for (int b = 0; b < 60; b++) {
+        int bullets = x.count(1);
+        for (int b = 0; b < bullets; b++) {
             for (int what = 0; what < 5; what++) {
                 all.append(x.bullet(b, what)).append(' ');
             }
