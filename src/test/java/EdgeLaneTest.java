@@ -471,9 +471,11 @@ public final class EdgeLaneTest {
         Check.due("the next one would not come", x.shuts(20), 0);
         Check.due("two of the emitter 0, one of the emitter 1", x.shuts(21), 0);
         Check.due("up to the bullets of the tick 19", x.shuts(29), 0);
-        Check.sentence("the emitter without which most columns would be free (bullets that room is made for)");
+        Check.sentence("of several the lowest (each of them shuts no more than the others do)");
         BulletLanes same = hung(5, "0d1;0d1;0d9+5");
-        Check.due("without any, as many: the lowest", same.shuts(30), 0);
+        Check.due("all in one column", same.shuts(30), 0);
+        Check.hang(same, "0d1;0d1;9d9+5");
+        Check.due("the only one that is not shut by another too", same.shuts(30), 2);
     }
 
     private static void steppedHits() {
